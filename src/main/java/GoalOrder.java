@@ -129,7 +129,7 @@ public final class GoalOrder {
         }
         long missing = wantedSet & ~root.behind;
         if (missing != 0L) {
-            stuckAt = Long.numberOfTrailingZeros(missing);
+            stuckAt = leastOf(missing);
             return FAULT_WANTED;
         }
         ordered = true;
@@ -216,6 +216,15 @@ public final class GoalOrder {
 
     private static boolean holds(long set, int x) {
         return (set >>> x & 1L) != 0L;
+    }
+
+    private static int leastOf(long set) {
+        for (int x = 0; x < VARIABLES; x++) {
+            if (holds(set, x)) {
+                return x;
+            }
+        }
+        return NONE;
     }
 
     private static boolean hasPlace(int places, int k) {
