@@ -386,16 +386,17 @@ public final class GoalOrder {
             return k >= 0 && k < many ? 1L << variables[k] : 0L;
         }
 
-        /** Whether the value handed out at place k meets one that is there already. */
+        /**
+         * Whether the value handed out at place k meets one that is there already. Each place ahead of it counts:
+         * a variable at one that hands out nothing is ground ahead anyway.
+         */
         boolean meets(int k, int made) {
             if (!hasPlace(made, k)) {
                 return false;
             }
             long there = ahead;
             for (int j = 0; j < k; j++) {
-                if (hasPlace(made, j)) {
-                    there |= variableAt(j);
-                }
+                there |= variableAt(j);
             }
             return (variableAt(k) & there) != 0L;
         }

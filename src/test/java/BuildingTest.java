@@ -128,6 +128,8 @@ public final class BuildingTest {
         DUE.is("4: nothing stuck", g.stuck(), NONE);
         DUE.is("4: a not again", g.add(0, Sorts.NOT, 0), 1);
         DUE.is("4: without a part", g.node(1, 1), 0);
+        DUE.is("4: so it can't be done", g.order(), 1);
+        DUE.is("4: and no old part of it is tried", g.stuck(), 1);
         DUE.is("4: its old variables are not there", g.outer(1, 8), false);
         DUE.is("4: it takes a part", Sorts.add(g, 1, Sorts.NUMBER, 5), 2);
         DUE.is("4: of one variable", g.node(2, 2), 1);
@@ -164,6 +166,8 @@ public final class BuildingTest {
         DUE.is("6: 249 parts", g.node(0, 1), 249);
         DUE.is("6: they are in order", g.order(), 0);
         DUE.is("6: the last one", g.part(0, 248), 249);
+        DUE.is("6: still no 251st", g.add(0, Sorts.TRUE, 0), NONE);
+        DUE.is("6: what is refused leaves the ordering", g.part(0, 248), 249);
     }
 
     private static void promise6Parents() {

@@ -12,6 +12,7 @@ public final class OrderingTest {
         promise9Row();
         promise9RowGoesBackToTheLeft();
         promise9Choice();
+        promise9ChoiceOfThree();
         promise9ChoiceKeepsInnerVariables();
         promise9ChoiceInRow();
         promise9Not();
@@ -189,6 +190,21 @@ public final class OrderingTest {
         g.given(1, false);
         g.wanted(1, false);
         DUE.is("9: and if it isn't outer", g.order(), 0);
+    }
+
+    /** Whichever of three parts doesn't make the outer variable, or alone makes it. */
+    private static void promise9ChoiceOfThree() {
+        for (int makers = 0; makers < 8; makers++) {
+            GoalOrder g = new GoalOrder();
+            int choice = g.add(0, Sorts.CHOICE, 0);
+            for (int k = 0; k < 3; k++) {
+                Sorts.add(g, choice, (makers >> k & 1) != 0 ? Sorts.NUMBER : Sorts.COMPARE, 1 + (~makers >> k & 1));
+            }
+            g.given(2, true);
+            g.wanted(1, true);
+            DUE.is("9: made by " + makers, g.order(), makers == 0 ? 2 : makers == 7 ? 0 : 1);
+            DUE.is("10: told", g.stuck(), makers == 0 ? 1 : makers == 7 ? NONE : choice);
+        }
     }
 
     /** What isn't outer of a choice stays inside it: this is seen where it is outer of one that lies in it. */
@@ -467,6 +483,14 @@ public final class OrderingTest {
         int test = addTest(g, Sorts.NUMBER, Sorts.TRUE, Sorts.COMPARE);
         DUE.is("10: a fault", g.order(), 1);
         DUE.is("10: the third is not tried", g.stuck(), test);
+        g.clear();
+        test = g.add(0, Sorts.TEST, 0);
+        Sorts.add(g, test, Sorts.NUMBER, 1);
+        Sorts.add(g, test, Sorts.COMPARE, 2);
+        g.add(test, Sorts.TRUE, 0);
+        g.wanted(1, true);
+        DUE.is("10: a fault", g.order(), 1);
+        DUE.is("10: behind an outer one that is made the second isn't tried", g.stuck(), test);
     }
 
     /** At first the choice is held up by a part of it, at last by what its parts don't agree on. */
