@@ -1,18 +1,45 @@
+import java.util.List;
+
 /** Collects the answers that are not the ones that are due. */
 final class Due {
     private int wrong = 0;
     private int asked = 0;
+    private String about = "";
+
+    /** What the answers from now on are about: it stands ahead of each one that is told. */
+    void about(String what) {
+        about = what + ": ";
+    }
 
     void is(String what, long got, long due) {
         asked++;
         if (got != due) {
-            wrong++;
-            System.out.println(what + " answered " + got + ", due is " + due);
+            tell(what + " answered " + got + ", due is " + due);
         }
     }
 
     void is(String what, boolean got, boolean due) {
         is(what, got ? 1L : 0L, due ? 1L : 0L);
+    }
+
+    /** Two states, as State tells them: of those that differ the first line is told. */
+    void alike(String what, List<String> got, List<String> due) {
+        asked++;
+        int shorter = Math.min(got.size(), due.size());
+        for (int i = 0; i < shorter; i++) {
+            if (!got.get(i).equals(due.get(i))) {
+                tell(what + " came to " + got.get(i) + ", due is " + due.get(i));
+                return;
+            }
+        }
+        if (got.size() != due.size()) {
+            tell(what + " came to " + got.size() + " answers, due are " + due.size());
+        }
+    }
+
+    void tell(String what) {
+        wrong++;
+        System.out.println(about + what);
     }
 
     void end() {

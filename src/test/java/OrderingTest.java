@@ -29,17 +29,9 @@ public final class OrderingTest {
         DUE.end();
     }
 
-    private static GoalOrder given(int... variables) {
-        GoalOrder g = new GoalOrder();
-        for (int x : variables) {
-            g.given(x, true);
-        }
-        return g;
-    }
-
     /** Orders a tree of one atom: its way, or NONE when it can't be done. */
     private static int way(int sort, int[] row, int... ground) {
-        GoalOrder g = given(ground);
+        GoalOrder g = Trees.given(ground);
         int atom = Sorts.add(g, 0, sort, row);
         int fault = g.order();
         DUE.is("9: stuck is told", g.stuck(), fault == 1 ? atom : NONE);
@@ -48,7 +40,7 @@ public final class OrderingTest {
 
     /** Whether an atom with that row and those ground ahead makes x ground. */
     private static boolean makes(int x, int sort, int[] row, int... ground) {
-        GoalOrder g = given(ground);
+        GoalOrder g = Trees.given(ground);
         Sorts.add(g, 0, sort, row);
         g.wanted(x, true);
         return g.order() == 0;
@@ -310,7 +302,7 @@ public final class OrderingTest {
     }
 
     private static void promise9Wanted() {
-        GoalOrder g = given(1);
+        GoalOrder g = Trees.given(1);
         g.wanted(1, true);
         g.wanted(40, true);
         g.wanted(59, true);
@@ -328,34 +320,10 @@ public final class OrderingTest {
         DUE.is("10: none then", g.stuck(), NONE);
     }
 
-    /**
-     * A tree that takes 19,962 tries and one for each of the TRUEs at its end: a row of 15 COMPAREs and 16 TRUEs
-     * takes 1 + 16 * 16 + 15 = 272 in vain, ahead of each of 72 TRUEs and of the NUMBER that it waits for
-     * (73 * 273), then 32 when it is done, and NODE 0 takes one.
-     */
-    private static GoalOrder heavy(int more) {
-        GoalOrder g = new GoalOrder();
-        int inner = g.add(0, Sorts.ROW, 0);
-        for (int k = 0; k < 15; k++) {
-            Sorts.add(g, inner, Sorts.COMPARE, 0);
-        }
-        for (int k = 0; k < 16; k++) {
-            g.add(inner, Sorts.TRUE, 0);
-        }
-        for (int k = 0; k < 72; k++) {
-            g.add(0, Sorts.TRUE, 0);
-        }
-        Sorts.add(g, 0, Sorts.NUMBER, 0);
-        for (int k = 0; k < more; k++) {
-            g.add(0, Sorts.TRUE, 0);
-        }
-        return g;
-    }
-
     private static void promise9Tries() {
-        DUE.is("9: 20,000 tries", heavy(38).order(), 0);
-        DUE.is("9: 20,001 tries", heavy(39).order(), 3);
-        GoalOrder g = heavy(39);
+        DUE.is("9: 20,000 tries", Trees.heavy(38).order(), 0);
+        DUE.is("9: 20,001 tries", Trees.heavy(39).order(), 3);
+        GoalOrder g = Trees.heavy(39);
         g.wanted(59, true);
         DUE.is("9: 20,001 tries and a variable missing", g.order(), 3);
         DUE.is("10: nothing is told", g.stuck(), NONE);
@@ -369,51 +337,51 @@ public final class OrderingTest {
     /** Each sort of node put in last takes so many tries: one TRUE more than there is room for is too much. */
     private static void promise9TriesOfNested() {
         for (int more = 0; more <= 1; more++) {
-            GoalOrder g = heavy(36 + more);
+            GoalOrder g = Trees.heavy(36 + more);
             g.add(g.add(0, Sorts.NOT, 0), Sorts.TRUE, 0);
             DUE.is("9: not takes two", g.order(), more == 0 ? 0 : 3);
 
-            g = heavy(37 + more);
+            g = Trees.heavy(37 + more);
             int not = g.add(0, Sorts.NOT, 0);
             DUE.is("9: not without a part takes one", g.order(), more == 0 ? 1 : 3);
             DUE.is("10: it is stuck", g.stuck(), more == 0 ? not : NONE);
 
-            g = heavy(35 + more);
+            g = Trees.heavy(35 + more);
             int choice = g.add(0, Sorts.CHOICE, 0);
             g.add(choice, Sorts.TRUE, 0);
             g.add(choice, Sorts.TRUE, 0);
             DUE.is("9: a choice of two takes three", g.order(), more == 0 ? 0 : 3);
 
-            g = heavy(36 + more);
+            g = Trees.heavy(36 + more);
             choice = g.add(0, Sorts.CHOICE, 0);
             int first = Sorts.add(g, choice, Sorts.COMPARE, 7);
             g.add(choice, Sorts.TRUE, 0);
             DUE.is("9: behind a part that can't none is tried", g.order(), more == 0 ? 1 : 3);
             DUE.is("10: that part is stuck", g.stuck(), more == 0 ? first : NONE);
 
-            g = heavy(37 + more);
+            g = Trees.heavy(37 + more);
             int compare = Sorts.add(g, 0, Sorts.COMPARE, 7);
             DUE.is("9: one that can't takes one", g.order(), more == 0 ? 1 : 3);
             DUE.is("10: it is stuck", g.stuck(), more == 0 ? compare : NONE);
         }
         for (int more = 0; more <= 1; more++) {
-            GoalOrder g = heavy(34 + more);
+            GoalOrder g = Trees.heavy(34 + more);
             addTest(g, Sorts.TRUE, Sorts.TRUE, Sorts.TRUE);
             DUE.is("9: a test takes four", g.order(), more == 0 ? 0 : 3);
 
-            g = heavy(36 + more);
+            g = Trees.heavy(36 + more);
             addTest(g, Sorts.COMPARE, Sorts.TRUE, Sorts.TRUE);
             DUE.is("9: what is asked can't: two", g.order(), more == 0 ? 1 : 3);
 
-            g = heavy(36 + more);
+            g = Trees.heavy(36 + more);
             addTest(g, Sorts.NUMBER, Sorts.TRUE, Sorts.NUMBER);
             DUE.is("9: what is asked may not: two", g.order(), more == 0 ? 1 : 3);
 
-            g = heavy(35 + more);
+            g = Trees.heavy(35 + more);
             addTest(g, Sorts.TRUE, Sorts.COMPARE, Sorts.TRUE);
             DUE.is("9: the second can't: three", g.order(), more == 0 ? 1 : 3);
 
-            g = heavy(37 + more);
+            g = Trees.heavy(37 + more);
             addTest(g, Sorts.TRUE, Sorts.TRUE);
             DUE.is("9: a test of two: one", g.order(), more == 0 ? 1 : 3);
         }
