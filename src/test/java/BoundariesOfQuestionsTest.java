@@ -141,6 +141,20 @@ public final class BoundariesOfQuestionsTest {
         }
     }
 
+    @Sentence(in = "Terms", says = "If more than 20,000 times a NODE would be TRIED: FAULT 3.")
+    static void whatIsRefusedBehindFault3ChangesNothing() {
+        Consumer<GoalOrder> before = Trees::putInTooHeavy;
+        Consumer<GoalOrder> refused = g -> {
+            g.predicate(7);
+            g.mode(0, 0);
+            g.put(60);
+            g.add(2, Sorts.TRUE, 0);
+            g.given(0, false);
+            g.wanted(0, false);
+        };
+        DUE.alike("refused calls behind FAULT 3", State.behind(before.andThen(refused)), State.behind(before));
+    }
+
     // Promise 11
 
     @Sentence(in = "Promise 11", says = "NONE when it has none such, or it was not ORDERED.")
