@@ -1,24 +1,27 @@
 import java.util.List;
 
-/** Collects the answers that are not the ones that are due. */
-final class Due {
+/**
+ * Collects the answers that are not the ones that are due. Public where the program made of README.md asks it,
+ * as that has a loader of its own.
+ */
+public final class Due {
     private int wrong = 0;
     private int asked = 0;
     private String about = "";
 
     /** What the answers from now on are about: it stands ahead of each one that is told. */
     void about(String what) {
-        about = what + ": ";
+        about = what.isEmpty() ? "" : what + ": ";
     }
 
-    void is(String what, long got, long due) {
+    public void is(String what, long got, long due) {
         asked++;
         if (got != due) {
             tell(what + " answered " + got + ", due is " + due);
         }
     }
 
-    void is(String what, boolean got, boolean due) {
+    public void is(String what, boolean got, boolean due) {
         is(what, got ? 1L : 0L, due ? 1L : 0L);
     }
 
